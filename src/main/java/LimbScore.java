@@ -600,7 +600,7 @@ public final class LimbScore {
             return latest != NONE && beat < endOf(latest) ? latest : NONE;
         }
 
-        /** Fills the row with the signs that cover the beats of a column, NONE where there is none. */
+        /** Fills the row with the signs that cover the beats of a column, NONE where none does. */
         void fillRow(int column, int[] row) {
             Arrays.fill(row, NONE);
             for (int i = 0; i < size; i++) {
