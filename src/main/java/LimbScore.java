@@ -374,7 +374,7 @@ public final class LimbScore {
     }
 
     private static boolean isInPhrase(int sign, int first, int last) {
-        return isWithin(Sign.beginOf(sign), first, last - 1) && Sign.shortEndOf(sign) <= last;
+        return Sign.beginOf(sign) >= first && Sign.shortEndOf(sign) <= last;
     }
 
     private static int copyOf(int sign, int mirrored, int reversed) {
