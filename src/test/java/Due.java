@@ -31,6 +31,34 @@ final class Due {
         }
     }
 
+    /** A new object with a score of so many beats and the signs of a text. */
+    static LimbScore laid(int beats, String text) {
+        LimbScore x = new LimbScore();
+        x.reset(beats);
+        type(x, text);
+        is("laid: " + text, x.fault(), NOT_FOUND);
+        x.lay();
+        return x;
+    }
+
+    /** All that a small score tells of its state: the numbers, the signs and the text's fault. */
+    static String stateOf(LimbScore x) {
+        StringBuilder state = new StringBuilder();
+        for (int what = 0; what < 5; what++) {
+            state.append(x.count(what)).append(' ');
+        }
+        for (int sign = 0; sign < x.count(1); sign++) {
+            for (int what = 0; what < 7; what++) {
+                state.append(x.sign(sign, what)).append(' ');
+            }
+        }
+        return state.append(x.fault()).toString();
+    }
+
+    static void same(String where, String got, String due) {
+        is(where + ": \"" + got + "\" against \"" + due + "\"", got.equals(due) ? 1 : 0, 1);
+    }
+
     static void type(LimbScore x, String text) {
         for (int i = 0; i < text.length(); i++) {
             x.type(text.charAt(i));

@@ -29,6 +29,7 @@ public final class RulesTest {
 
     public static void main(String[] args) throws Exception {
         face();
+        sizes();
         source(Files.readString(Path.of("src/main/java/LimbScore.java")));
         Due.end();
     }
@@ -77,8 +78,67 @@ public final class RulesTest {
         }
     }
 
+    /** Rules 3, 5 and 11: kinds of fields, and how many classes, fields and parameters. */
+    private static void sizes() {
+        List<Class<?>> classes =
+                new ArrayList<>(Arrays.asList(LimbScore.class.getDeclaredClasses()));
+        classes.add(LimbScore.class);
+        Due.is("at most twelve classes: " + classes, classes.size() <= 12 ? 1 : 0, 1);
+        for (Class<?> one : classes) {
+            int fields = 0;
+            for (Field field : one.getDeclaredFields()) {
+                boolean isStatic = Modifier.isStatic(field.getModifiers());
+                fields += isStatic ? 0 : 1;
+                Due.is(field + " is final, if static",
+                        !isStatic || Modifier.isFinal(field.getModifiers()) ? 1 : 0, 1);
+                Due.is(field + " is of a kind that may be", isKind(field.getType(), classes), 1);
+            }
+            Due.is(one + " has at most twenty fields", fields <= 20 ? 1 : 0, 1);
+            for (Method method : one.getDeclaredMethods()) {
+                Due.is(method + " takes at most seven", method.getParameterCount() <= 7 ? 1 : 0, 1);
+            }
+        }
+    }
+
+    private static int isKind(Class<?> type, List<Class<?>> own) {
+        return type == int.class || type == int[].class || own.contains(type) ? 1 : 0;
+    }
+
+    /** Rule 4: of the library only what stands there, as far as this class needs it. */
+    private static void library(String code) {
+        List<String> allowed = Arrays.asList("Math.max", "Math.min", "Math.abs", "Math.floorMod",
+                "Arrays.fill", "System.arraycopy");
+        List<String> own = Arrays.asList("Sign");
+        Matcher matcher = Pattern.compile("\\b([A-Z]\\w*)\\.([a-z]\\w*)\\(").matcher(code);
+        while (matcher.find()) {
+            String call = matcher.group(1) + "." + matcher.group(2);
+            Due.is(call + " may be called",
+                    own.contains(matcher.group(1)) || allowed.contains(call) ? 1 : 0, 1);
+        }
+        Due.is("no text is used", code.contains("\"") || code.contains("String") ? 1 : 0, 0);
+    }
+
+    /** Rule 11: a method has at most some sixty lines. */
+    private static void methodLengths(String[] lines) {
+        int methods = 0;
+        for (int from = 0; from < lines.length; from++) {
+            String indent = lines[from].startsWith("        ") ? "        " : "    ";
+            boolean isHead = lines[from].matches("(    |        )[a-zA-Z].*\\(.*[^;]")
+                    && !lines[from].matches(" *(if|for|while|switch|return|case|default)\\b.*");
+            int to = from;
+            while (isHead && to < lines.length && !lines[to].equals(indent + "}")) {
+                to++;
+            }
+            methods += isHead ? 1 : 0;
+            Due.is(lines[from].trim() + ": lines up to its end", to - from < 60 ? 1 : 0, 1);
+        }
+        Due.is("methods are found", methods > 80 ? 1 : 0, 1);
+    }
+
     private static void source(String text) {
         String code = text.replaceAll("(?s)/\\*.*?\\*/", "").replaceAll("//[^\n]*", "");
+        library(code);
+        methodLengths(text.split("\n"));
         for (String forbidden : FORBIDDEN) {
             Matcher matcher = Pattern.compile(forbidden).matcher(code);
             Due.is("the source has " + forbidden, matcher.find() ? 1 : 0, 0);
