@@ -20,6 +20,7 @@ public final class WeightEdgesTest {
         bothLegs();
         faultyForALeg();
         faultyForAFlight();
+        flightsOfTheEndAndTheBegin();
         longFlightWhole();
         initialLeap();
         leapsFromZeroToEight();
@@ -194,6 +195,23 @@ public final class WeightEdgesTest {
             Due.is("its first beat", x.isFaulty(3), 1);
             Due.is("its last beat", x.isFaulty(2 + length), 1);
             Due.is("the beat behind it", x.isFaulty(3 + length), 0);
+        }
+    }
+
+    // (so at the end and at the begin of the score.)
+    private static void flightsOfTheEndAndTheBegin() {
+        for (int length = 1; length <= 9; length++) {
+            LimbScore x = new LimbScore();
+            x.addMove(0, 0, 16 - length, 1, 1);
+            x.setLeap(length - 1);
+            for (int beat = 0; beat < 16; beat++) {
+                Due.is("at the end", x.isFaulty(beat), beat >= 16 - length ? 1 : 0);
+            }
+            x.removeSign(0);
+            x.addMove(0, length, 16 - length, 1, 1);
+            for (int beat = 0; beat < 16; beat++) {
+                Due.is("at the begin", x.isFaulty(beat), beat < length ? 1 : 0);
+            }
         }
     }
 
